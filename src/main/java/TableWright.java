@@ -831,7 +831,12 @@ public final class TableWright {
             left[page] = room;
             putWaitingNotes(sheet, page);
             while (nextRow < sheet.rowCount && hasRoomForNextRow(sheet, page)) {
-                putNextRow(sheet, page);
+                boolean isNoteWaiting = nextNote < nextRow;
+                putNextRow(page);
+                nextRow++;
+                if (!isNoteWaiting) {
+                    putWaitingNotes(sheet, page);
+                }
             }
             lastRows[page] = nextRow - 1;
         }
@@ -870,18 +875,13 @@ public final class TableWright {
             return together;
         }
 
-        private void putNextRow(Sheet sheet, int page) {
+        private void putNextRow(int page) {
             if (rowsOn[page] == 0) {
                 firstRows[page] = nextRow;
             }
             rowPages[nextRow] = page;
             rowsOn[page]++;
             left[page] -= heights[nextRow];
-            boolean isNoteWaiting = nextNote < nextRow;
-            nextRow++;
-            if (!isNoteWaiting) {
-                putWaitingNotes(sheet, page);
-            }
         }
     }
 

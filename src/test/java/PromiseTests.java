@@ -12,6 +12,7 @@ public final class PromiseTests {
 
     public static void main(String[] args) {
         newObject();
+        paperAtFirst();
         column();
         formula();
         formulaResults();
@@ -45,7 +46,9 @@ public final class PromiseTests {
         pagesWith();
         changedBy();
         changedByOtherPaper();
+        changedByInFull();
         pagesWithout();
+        pagesWithoutInFull();
         digest();
         digestOfAll();
         System.out.println("PromiseTests: " + passed + " passed, " + failed + " failed");
@@ -126,6 +129,21 @@ public final class PromiseTests {
         due("meanLeft()", 0.0, x.meanLeft());
         due("pagesWith()", -1, x.pagesWith(60, 60, false));
         due("two objects", true, new TableWright().row() == new TableWright().row());
+        TableWright y = texts(1, 1);
+        y.text(0, 0, 100, 1);
+        y.column(false, 11);
+        due("40 wide at first", 40, y.many(4));
+        due("narrowed to 40", 28, y.ofColumn(0, 3));
+    }
+
+    private static void paperAtFirst() {
+        part = "promise 11, at first";
+        TableWright x = numbers(1, 27);
+        due("upright", 0, x.many(3));
+        due("left of 27", 0, x.ofPage(0, 3));
+        x.row();
+        due("turned", 1, x.many(3));
+        due("left of 37", 9, x.ofPage(0, 3));
     }
 
     // ---- promises 2 to 10: what is written
@@ -223,6 +241,12 @@ public final class PromiseTests {
         due("many(1)", 30, x.many(1));
         due("cut()", 29, x.cut(3));
         due("row()", 29, x.row());
+        TableWright y = numbers(1, 1);
+        due("page of the first", 0, y.ofRow(0, 1));
+        due("row()", 1, y.row());
+        due("page of the second", 0, y.ofRow(1, 1));
+        due("height of the second", 1, y.ofRow(1, 0));
+        due("heights", 2, y.many(5));
     }
 
     private static void cut() {
@@ -453,7 +477,10 @@ public final class PromiseTests {
         x.number(1, 0, -1);
         due("of the sum -10", 3, x.ofColumn(0, 1));
         due("best", 3, x.ofColumn(0, 2));
+        x.number(0, 0, 9999);
         x.number(1, 0, -9999);
+        due("of a value, the sum of which is smaller", 5, x.ofColumn(0, 1));
+        x.number(0, 0, -9);
         due("of the sum -10008", 6, x.ofColumn(0, 1));
         x.row();
         x.number(2, 0, 9999);
@@ -621,6 +648,12 @@ public final class PromiseTests {
         due("a group that just has room", 0, y.ofRow(2, 1));
         y.keep(2, true);
         due("up to the first that is not kept, and with it", 1, y.ofRow(1, 1));
+        TableWright z = high(4, 3, 4);
+        z.paper(10, 10);
+        z.keep(1, true);
+        due("with the last row", 1, z.ofRow(1, 1));
+        z.cut(2);
+        due("the last row alone", 0, z.ofRow(1, 1));
     }
 
     private static void groupsThatEndNoPage() {
@@ -745,6 +778,10 @@ public final class PromiseTests {
         due("a note on a page alone", 4 + 2 + 1, x.ofPage(2, 4));
         x.note(8, 1);
         due("each note", 4 + 2 + 3 * 4 - 1 + 1, x.ofPage(1, 4));
+        TableWright y = numbers(1, 10);
+        y.column(true, 1);
+        y.paper(10, 10);
+        due("carried of the first column", 2 + 1 + 3 * 2, y.ofPage(1, 4));
     }
 
     // ---- promise 16
@@ -886,6 +923,7 @@ public final class PromiseTests {
         due("the edge", 1, x.pagesWith(60, 60, true));
         due("nothing is changed", before, x.digest());
         x.column(true, 12);
+        due("just after a column has come", 3, x.pagesWith(17, 10, false));
         due("too wide upright", -1, x.pagesWith(16, 17, false));
         due("wide enough turned", 2, x.pagesWith(16, 17, true));
         refused(x, ARGUMENT, () -> x.pagesWith(9, 20, false));
@@ -910,6 +948,11 @@ public final class PromiseTests {
         due("carried of the last", 1, x.changedBy(14, 0, 1));
         due("nothing is changed", before, x.digest());
         due("value", 0, x.cell(8, 0, 0));
+        TableWright y = numbers(1, 20);
+        y.paper(10, 10);
+        due("carried of the first column alone", 2, y.changedBy(13, 0, 1));
+        y.number(13, 0, 5);
+        due("what is written already", 0, y.changedBy(13, 0, 5));
         refused(x, INDEX, () -> x.changedBy(20, 0, 1));
         refused(x, INDEX, () -> x.changedBy(-1, 1, 10000));
         refused(x, INDEX, () -> x.changedBy(0, 3, 10000));
@@ -954,6 +997,84 @@ public final class PromiseTests {
         due("rows of the first", 2, y.ofPage(0, 1));
         due("rows of the first, and all of the second", 2, y.changedBy(2, 1, 100));
         due("carried of the second alone", 1, y.changedBy(2, 1, 11));
+        // Four pages once, two now, and the same four then.
+        TableWright z = new TableWright();
+        z.column(true, 1);
+        z.column(false, 1);
+        withRows(z, 4);
+        for (int row = 0; row < 4; row++) {
+            z.text(row, 0, row % 2 == 0 ? 21 : 24, 1);
+        }
+        z.number(3, 1, 100);
+        due("pages once", 4, z.paper(10, 10));
+        z.number(3, 1, 10);
+        due("pages now", 2, z.many(2));
+        due("two with other rows, two only then", 4, z.changedBy(3, 1, 100));
+    }
+
+    // ---- a table of the full size
+
+    private static TableWright full() {
+        TableWright x = new TableWright();
+        x.column(true, 4);
+        x.column(true, 2);
+        x.column(false, 3);
+        x.formula(4, 2, 2, 8);
+        x.formula(3, 2, 3, 1);
+        x.column(false, 1);
+        for (int row = 0; row < 30; row++) {
+            x.row();
+            x.text(row, 0, 12 + row * 5, row % 8 + 5);
+            x.text(row, 1, 150 - row * 4, row % 9);
+            x.number(row, 2, row * 31 - 200);
+            x.note(row, row % 4);
+            x.keep(row, row % 3 != 0);
+            x.span(row, 0, row % 5 == 1);
+        }
+        x.keep(29, true);
+        x.paper(60, 20);
+        return x;
+    }
+
+    private static String rowsAndCarried(TableWright x, int page) {
+        if (page >= x.many(2)) {
+            return "no page";
+        }
+        StringBuilder all = new StringBuilder();
+        all.append(x.ofPage(page, 0)).append(' ').append(x.ofPage(page, 1));
+        for (int column = 0; column < 6; column++) {
+            all.append(' ').append(x.carried(page, column));
+        }
+        return all.toString();
+    }
+
+    private static void changedByInFull() {
+        part = "promise 20, a full table";
+        TableWright x = full();
+        due("laid out on several pages", true, x.many(2) > 2);
+        for (int row = 0; row < 30; row += 4) {
+            for (int value : new int[] {-9999, -1, 0, 12, 9999}) {
+                int column = row % 8 == 0 ? 2 : 5;
+                TableWright then = full();
+                then.number(row, column, value);
+                int changed = 0;
+                for (int page = 0; page < Math.max(x.many(2), then.many(2)); page++) {
+                    changed += rowsAndCarried(x, page).equals(rowsAndCarried(then, page)) ? 0 : 1;
+                }
+                due("changedBy(" + row + ", " + column + ", " + value + ")", changed, x.changedBy(row, column, value));
+            }
+        }
+    }
+
+    private static void pagesWithoutInFull() {
+        part = "promise 21, a full table";
+        TableWright x = full();
+        for (int row = 0; row < 30; row++) {
+            TableWright then = full();
+            then.cut(row);
+            due("pagesWithout(" + row + ")", then.many(2), x.pagesWithout(row));
+        }
+        due("nothing is changed", full().digest(), x.digest());
     }
 
     private static void pagesWithout() {
@@ -1008,35 +1129,29 @@ public final class PromiseTests {
 
     private static void digestOfAll() {
         part = "promise 22, all of it";
-        TableWright x = new TableWright();
-        x.column(true, 4);
-        x.column(true, 2);
-        x.column(false, 3);
-        x.formula(4, 2, 2, 5);
-        for (int row = 0; row < 20; row++) {
-            x.row();
-            x.text(row, 0, row * 7, row % 5);
-            x.text(row, 1, 190 - row * 8, row % 7);
-            x.number(row, 2, row * 31 - 200);
-            x.note(row, row % 4);
-            x.keep(row, row % 3 == 0);
-            x.span(row, 0, row % 5 == 1);
+        due("digest() of a full table", digestOf(full(), 6, 30), full().digest());
+        due("digest() without rows", digestOf(numbers(2, 0), 2, 0), numbers(2, 0).digest());
+        // These have just room on 30 and 20, or just not, upright or turned.
+        for (int rows : new int[] {17, 18, 27, 28}) {
+            due("digest() of " + rows, digestOf(numbers(1, rows), 1, rows), numbers(1, rows).digest());
         }
-        x.paper(60, 18);
+    }
+
+    private static long digestOf(TableWright x, int columns, int rows) {
         long d = 58119;
         for (int what = 0; what <= 7; what++) {
             d = add(d, x.many(what));
         }
-        for (int column = 0; column < 4; column++) {
+        for (int column = 0; column < columns; column++) {
             for (int what = 0; what <= 4; what++) {
                 d = add(d, x.ofColumn(column, what));
             }
         }
-        for (int row = 0; row < 20; row++) {
+        for (int row = 0; row < rows; row++) {
             for (int what = 0; what <= 2; what++) {
                 d = add(d, x.ofRow(row, what));
             }
-            for (int column = 0; column < 4; column++) {
+            for (int column = 0; column < columns; column++) {
                 for (int what = 0; what <= 3; what++) {
                     d = add(d, x.cell(row, column, what));
                 }
@@ -1046,13 +1161,11 @@ public final class PromiseTests {
             for (int what = 0; what <= 4; what++) {
                 d = add(d, x.ofPage(page, what));
             }
-            for (int column = 0; column < 4; column++) {
+            for (int column = 0; column < columns; column++) {
                 d = add(d, x.carried(page, column));
             }
         }
         d = add(d, x.pagesWith(30, 20, false));
-        d = add(d, x.pagesWith(30, 20, true));
-        due("laid out on several pages", true, x.many(2) > 2);
-        due("digest()", d, x.digest());
+        return add(d, x.pagesWith(30, 20, true));
     }
 }
