@@ -182,11 +182,11 @@ public final class ModelTests {
             case 12: return "" + table.ofRow(a[1], a[2]);
             case 13: return "" + table.ofPage(a[1], a[2]);
             case 14: return "" + table.carried(a[1], a[2]);
-            case 15: return table.many(a[1]) + " " + table.meanLeft();
+            case 15: return "" + table.many(a[1]);
             case 16: return "" + table.pagesWith(a[1], a[2], a[3] % 2 == 0);
             case 17: return "" + table.changedBy(a[1], a[2], a[3]);
-            case 18:
-            case 19: return "" + table.pagesWithout(a[1]);
+            case 18: return "" + table.pagesWithout(a[1]);
+            case 19: return "" + table.meanLeft();
             default: return "" + table.digest();
         }
     }
@@ -208,11 +208,11 @@ public final class ModelTests {
             case 12: return "" + model.ofRow(a[1], a[2]);
             case 13: return "" + model.ofPage(a[1], a[2]);
             case 14: return "" + model.carried(a[1], a[2]);
-            case 15: return model.many(a[1]) + " " + model.meanLeft();
+            case 15: return "" + model.many(a[1]);
             case 16: return "" + model.pagesWith(a[1], a[2], a[3] % 2 == 0);
             case 17: return "" + model.changedBy(a[1], a[2], a[3]);
-            case 18:
-            case 19: return "" + model.pagesWithout(a[1]);
+            case 18: return "" + model.pagesWithout(a[1]);
+            case 19: return "" + model.meanLeft();
             default: return "" + model.digest();
         }
     }

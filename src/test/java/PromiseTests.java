@@ -1,15 +1,9 @@
+import java.util.ArrayList;
+import java.util.List;
+import java.util.function.Supplier;
+
 /** Each promise of the document by its number: ordinary calls, edges, wrong inputs. */
-public final class PromiseTests {
-    private static final Class<? extends RuntimeException> INDEX = IndexOutOfBoundsException.class;
-    private static final Class<? extends RuntimeException> ARGUMENT = IllegalArgumentException.class;
-    private static final Class<? extends RuntimeException> STATE = IllegalStateException.class;
-    private static final int LOW = Integer.MIN_VALUE;
-    private static final int TOP = Integer.MAX_VALUE;
-
-    private static String part = "";
-    private static int passed = 0;
-    private static int failed = 0;
-
+public final class PromiseTests extends Checks {
     public static void main(String[] args) {
         newObject();
         paperAtFirst();
@@ -51,68 +45,14 @@ public final class PromiseTests {
         pagesWithoutInFull();
         digest();
         digestOfAll();
-        System.out.println("PromiseTests: " + passed + " passed, " + failed + " failed");
-        if (failed > 0) {
-            System.exit(1);
-        }
-    }
-
-    // ---- how it is told
-
-    private static void due(String what, Object want, Object got) {
-        if (want.equals(got)) {
-            passed++;
-        } else {
-            failed++;
-            System.out.println(part + ": " + what + " is " + got + ", due is " + want);
-        }
+        finish("PromiseTests");
     }
 
     /** The call throws just this, and changes nothing. */
     private static void refused(TableWright x, Class<? extends RuntimeException> want, Runnable call) {
         long before = x.digest();
-        Object got = "nothing";
-        try {
-            call.run();
-        } catch (RuntimeException e) {
-            got = e.getClass();
-        }
-        due("what is thrown", want, got);
+        due("what is thrown", want, thrownBy(call));
         due("digest() after a throw", before, x.digest());
-    }
-
-    private static TableWright numbers(int columns, int rows) {
-        TableWright x = new TableWright();
-        for (int i = 0; i < columns; i++) {
-            x.column(false, 1);
-        }
-        return withRows(x, rows);
-    }
-
-    private static TableWright texts(int columns, int rows) {
-        TableWright x = new TableWright();
-        for (int i = 0; i < columns; i++) {
-            x.column(true, 1);
-        }
-        return withRows(x, rows);
-    }
-
-    private static TableWright withRows(TableWright x, int rows) {
-        for (int i = 0; i < rows; i++) {
-            x.row();
-        }
-        return x;
-    }
-
-    /** One column of texts, which is 10 wide if it is narrowed: each row has the height that is asked for. */
-    private static TableWright high(int... heights) {
-        TableWright x = new TableWright();
-        x.column(true, 10);
-        for (int height : heights) {
-            int row = x.row();
-            x.text(row, 0, height * 10, 1);
-        }
-        return x;
     }
 
     // ---- promise 1
@@ -1036,31 +976,41 @@ public final class PromiseTests {
         return x;
     }
 
-    private static String rowsAndCarried(TableWright x, int page) {
-        if (page >= x.many(2)) {
-            return "no page";
+    private static List<String> rowsAndCarried(TableWright x) {
+        List<String> all = new ArrayList<>();
+        int pages = x.many(2);
+        for (int page = 0; page < pages; page++) {
+            StringBuilder told = new StringBuilder();
+            told.append(x.ofPage(page, 0)).append(' ').append(x.ofPage(page, 1));
+            for (int column = 0; column < 6; column++) {
+                told.append(' ').append(x.carried(page, column));
+            }
+            all.add(told.toString());
         }
-        StringBuilder all = new StringBuilder();
-        all.append(x.ofPage(page, 0)).append(' ').append(x.ofPage(page, 1));
-        for (int column = 0; column < 6; column++) {
-            all.append(' ').append(x.carried(page, column));
+        return all;
+    }
+
+    private static int others(List<String> now, List<String> then) {
+        int most = Math.max(now.size(), then.size());
+        int others = 0;
+        for (int page = 0; page < most; page++) {
+            boolean isSame = page < now.size() && page < then.size() && now.get(page).equals(then.get(page));
+            others += isSame ? 0 : 1;
         }
-        return all.toString();
+        return others;
     }
 
     private static void changedByInFull() {
         part = "promise 20, a full table";
         TableWright x = full();
-        due("laid out on several pages", true, x.many(2) > 2);
+        List<String> now = rowsAndCarried(full());
+        due("laid out on several pages", true, now.size() > 2);
         for (int row = 0; row < 30; row += 4) {
             for (int value : new int[] {-9999, -1, 0, 12, 9999}) {
                 int column = row % 8 == 0 ? 2 : 5;
                 TableWright then = full();
                 then.number(row, column, value);
-                int changed = 0;
-                for (int page = 0; page < Math.max(x.many(2), then.many(2)); page++) {
-                    changed += rowsAndCarried(x, page).equals(rowsAndCarried(then, page)) ? 0 : 1;
-                }
+                int changed = others(now, rowsAndCarried(then));
                 due("changedBy(" + row + ", " + column + ", " + value + ")", changed, x.changedBy(row, column, value));
             }
         }
@@ -1129,15 +1079,17 @@ public final class PromiseTests {
 
     private static void digestOfAll() {
         part = "promise 22, all of it";
-        due("digest() of a full table", digestOf(full(), 6, 30), full().digest());
-        due("digest() without rows", digestOf(numbers(2, 0), 2, 0), numbers(2, 0).digest());
+        due("digest() of a full table", digestOf(() -> full(), 6, 30), full().digest());
+        due("digest() without rows", digestOf(() -> numbers(2, 0), 2, 0), numbers(2, 0).digest());
         // These have just room on 30 and 20, or just not, upright or turned.
         for (int rows : new int[] {17, 18, 27, 28}) {
-            due("digest() of " + rows, digestOf(numbers(1, rows), 1, rows), numbers(1, rows).digest());
+            due("digest() of " + rows, digestOf(() -> numbers(1, rows), 1, rows), numbers(1, rows).digest());
         }
     }
 
-    private static long digestOf(TableWright x, int columns, int rows) {
+    /** Each row and each page is asked of a table of its own, as no object takes more than 512 calls. */
+    private static long digestOf(Supplier<TableWright> table, int columns, int rows) {
+        TableWright x = table.get();
         long d = 58119;
         for (int what = 0; what <= 7; what++) {
             d = add(d, x.many(what));
@@ -1148,21 +1100,23 @@ public final class PromiseTests {
             }
         }
         for (int row = 0; row < rows; row++) {
+            TableWright y = table.get();
             for (int what = 0; what <= 2; what++) {
-                d = add(d, x.ofRow(row, what));
+                d = add(d, y.ofRow(row, what));
             }
             for (int column = 0; column < columns; column++) {
                 for (int what = 0; what <= 3; what++) {
-                    d = add(d, x.cell(row, column, what));
+                    d = add(d, y.cell(row, column, what));
                 }
             }
         }
         for (int page = 0; page < x.many(2); page++) {
+            TableWright y = table.get();
             for (int what = 0; what <= 4; what++) {
-                d = add(d, x.ofPage(page, what));
+                d = add(d, y.ofPage(page, what));
             }
             for (int column = 0; column < columns; column++) {
-                d = add(d, x.carried(page, column));
+                d = add(d, y.carried(page, column));
             }
         }
         d = add(d, x.pagesWith(30, 20, false));

@@ -3,7 +3,8 @@ import java.lang.management.ManagementFactory;
 
 /** All calls of one run share one room: what a call needs is made with the object, not by the call. */
 public final class RoomTests {
-    private static final int CALLS = 512;
+    private static final int CALLS_OF_A_ROUND = 9;
+    private static final int ROUNDS = 42;
     private static final long BYTES_IN_ALL = 64 * 1024;
 
     public static void main(String[] args) {
@@ -16,10 +17,10 @@ public final class RoomTests {
         long answers = ask(fullTable(), 2);
         TableWright table = fullTable();
         long before = threads.getThreadAllocatedBytes(thread);
-        answers += ask(table, CALLS / 8);
+        answers += ask(table, ROUNDS);
         long made = threads.getThreadAllocatedBytes(thread) - before;
         boolean isFine = made <= BYTES_IN_ALL && answers != 0;
-        System.out.println(CALLS + " calls make " + made + " bytes");
+        System.out.println(ROUNDS * CALLS_OF_A_ROUND + " calls make " + made + " bytes");
         System.out.println("RoomTests: " + (isFine ? "1 passed, 0 failed" : "0 passed, 1 failed"));
         if (!isFine) {
             System.exit(1);
