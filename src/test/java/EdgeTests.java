@@ -375,8 +375,9 @@ public final class EdgeTests extends Checks {
         due("a sum of one more", 4, y.ofColumn(0, 1));
         y.number(2, 0, -500);
         due("a sum ahead of the last", 4, y.ofColumn(0, 1));
-        y.number(0, 0, -500);
-        due("a value of one more, all sums being shorter", 4, y.ofColumn(0, 1));
+        y.number(1, 0, -100);
+        y.number(2, 0, 1);
+        due("a value of one more than the title and all sums", 4, y.ofColumn(0, 1));
         y.cut(1);
         y.cut(1);
         y.number(0, 0, 12);
@@ -693,6 +694,16 @@ public final class EdgeTests extends Checks {
         onPages(kept(".kk", 4, 2, 2), 0, 1, 1);
         onPages(kept(".k", 4, 3), 0, 0);
         onPages(kept("kkk", 2, 2, 3), 0, 0, 0);
+        TableWright x = kept(".k.", 4, 3, 4);
+        onPages(x, 0, 1, 1);
+        x.cut(2);
+        onPages(x, 0, 0);
+        x.keep(1, false);
+        x.row();
+        x.text(2, 0, 40, 0);
+        onPages(x, 0, 0, 1);
+        x.keep(1, true);
+        onPages(x, 0, 1, 1);
         sentence("each ROW that is in none of these is a GROUP by itself.");
         onPages(kept("....", 3, 3, 1, 1), 0, 0, 0, 1);
         groupsEndPages();
@@ -734,6 +745,11 @@ public final class EdgeTests extends Checks {
         due("rows on the first", 7, x.ofPage(0, 1));
         due("rows on the last", 2, x.ofPage(4, 1));
         due("paper() with room for all", 1, x.paper(10, 33));
+        x.keep(0, false);
+        due("a group of 29 behind a row", 0, x.ofRow(29, 1));
+        due("paper() with room for 29", 2, x.paper(10, 32));
+        due("the last of the group", 1, x.ofRow(29, 1));
+        due("the first of the group", 1, x.ofRow(1, 1));
     }
 
     // ---- terms 3: rows and notes that fill pages with room for 7 lines
@@ -992,7 +1008,13 @@ public final class EdgeTests extends Checks {
         newObject();
         cuts();
         sumsWithoutRows();
-        notLaidOutAtAll();
+        writesTellWhatWas();
+        papersThatDoNotFit();
+        cellsOfWhatIsNotLaidOut();
+        columnsOfWhatIsNotLaidOut();
+        rowsOfWhatIsNotLaidOut();
+        pagesOfWhatIsNotLaidOut();
+        manyOfWhatIsNotLaidOut();
         meanLeft();
         lastCalls();
     }
@@ -1039,6 +1061,15 @@ public final class EdgeTests extends Checks {
         due("value of a new one", 0, y.cell(0, 0, 0));
         due("note of a new one", 0, y.note(0, 0));
         due("kept, of a new one", false, y.keep(0, false));
+        TableWright z = texts(2, 1);
+        z.text(0, 0, 25, 9);
+        z.span(0, 0, true);
+        due("cut() of the only one", 0, z.cut(0));
+        due("row()", 0, z.row());
+        due("length of a new one", 0, z.cell(0, 0, 0));
+        due("hidden, of a new one", 0, z.cell(0, 1, 2));
+        due("word of a new one", 1, z.ofColumn(0, 1));
+        due("best of a new one", 1, z.ofColumn(0, 2));
     }
 
     private static void sumsWithoutRows() {
@@ -1063,31 +1094,138 @@ public final class EdgeTests extends Checks {
         due("a sum of 0", 0, y.cell(0, 0, 3));
     }
 
-    private static void notLaidOutAtAll() {
-        sentence("2 the PAGE of its NOTE (NONE without one); all NONE if it is not laid out");
+    /** Two pages of room for 7, a note of 5 that waits, and a text that can make the table too high. */
+    private static TableWright justLaidOut() {
         TableWright x = high(7, 1);
+        x.column(false, 2);
+        x.number(1, 1, 40);
         x.note(0, 5);
-        due("paper()", 2, x.paper(10, 10));
+        due("paper()", 2, x.paper(13, 10));
+        return x;
+    }
+
+    private static void papersThatDoNotFit() {
+        sentence("Returns on how many PAGES it is laid out then; NONE if it is not.");
+        TableWright x = justLaidOut();
+        due("paper() too narrow", -1, x.paper(12, 12));
+        x.text(0, 0, 71, 0);
+        due("paper() too low", -1, x.paper(13, 10));
+        due("paper() 1 line higher", 2, x.paper(13, 11));
+        due("paper() turned", 2, x.paper(11, 13));
+        due("paper() too narrow again", -1, x.paper(12, 12));
+        due("it stays so", -1, x.many(2));
+    }
+
+    private static void cellsOfWhatIsNotLaidOut() {
+        sentence("1 its HEIGHT as it is laid out (NONE if it is not), 2 1 if it is HIDDEN, otherwise 0, 3 the SUM up to it (NONE of a TEXT)");
+        TableWright x = justLaidOut();
+        x.column(true, 1);
+        x.column(true, 1);
+        x.span(1, 2, true);
+        due("paper()", 2, x.paper(17, 10));
+        int[][] facts = {{10, 1, 0, -1}, {40, 1, 0, 40}, {0, 1, 0, -1}, {0, 0, 1, -1}};
+        for (int round = 0; round < 2; round++) {
+            for (int column = 0; column < 4; column++) {
+                for (int what = 0; what <= 3; what++) {
+                    int want = round == 1 && what == 1 ? -1 : facts[column][what];
+                    due("column " + column + ", cell() of " + what, want, x.cell(1, column, what));
+                }
+            }
+            due("paper() too narrow", -1, x.paper(16, 16));
+        }
+    }
+
+    private static void columnsOfWhatIsNotLaidOut() {
+        sentence("3 its WIDTH as it is laid out (NONE if it is not),");
+        TableWright x = justLaidOut();
+        due("width", 10, x.ofColumn(0, 3));
+        x.text(0, 0, 71, 0);
+        due("width, 1 line too high", -1, x.ofColumn(0, 3));
+        due("width of a number", -1, x.ofColumn(1, 3));
+        due("kind all the same", 1, x.ofColumn(0, 0));
+        due("least all the same", 10, x.ofColumn(0, 1));
+        due("best all the same", 30, x.ofColumn(0, 2));
+        due("sum all the same", 40, x.ofColumn(1, 4));
+    }
+
+    private static void rowsOfWhatIsNotLaidOut() {
+        sentence("2 the PAGE of its NOTE (NONE without one); all NONE if it is not laid out");
+        TableWright x = justLaidOut();
         due("page of a note", 1, x.ofRow(0, 2));
         due("without one", -1, x.ofRow(1, 2));
-        due("pages", 2, x.many(2));
+        due("page of its row", 0, x.ofRow(0, 1));
         x.text(0, 0, 71, 0);
         for (int row = 0; row < 2; row++) {
             for (int what = 0; what <= 2; what++) {
-                due("ofRow() of what is not laid out", -1, x.ofRow(row, what));
+                due("row " + row + ", ofRow() of " + what, -1, x.ofRow(row, what));
             }
-            due("height of a cell", -1, x.cell(row, 0, 1));
         }
-        int[] many = {1, 2, -1, -1, -1, -1, 5, -1};
-        for (int what = 0; what < 8; what++) {
-            due("many(" + what + ")", many[what], x.many(what));
+    }
+
+    private static void pagesOfWhatIsNotLaidOut() {
+        sentence("if there is no such PAGE (so if it is not laid out)");
+        TableWright x = justLaidOut();
+        due("left on the last", 1, x.ofPage(1, 3));
+        due("the last and 1", INDEX, thrownBy(() -> x.ofPage(2, 3)));
+        x.text(0, 0, 71, 0);
+        due("ofPage()", INDEX, thrownBy(() -> x.ofPage(0, 3)));
+        due("carried()", INDEX, thrownBy(() -> x.carried(0, 1)));
+        sentence("0 its first ROW (NONE without any), 1 how many ROWS, 2 how many NOTES,");
+        TableWright y = noted(rows(7, 7), 5, 0);
+        int[][] facts = {{0, 1, 0}, {-1, 0, 1}, {1, 1, 0}};
+        for (int page = 0; page < 3; page++) {
+            for (int what = 0; what <= 2; what++) {
+                due("page " + page + ", ofPage() of " + what, facts[page][what], y.ofPage(page, what));
+            }
         }
-        due("width", -1, x.ofColumn(0, 3));
-        due("least all the same", 10, x.ofColumn(0, 1));
-        due("best all the same", 30, x.ofColumn(0, 2));
-        sentence("(so if it is not laid out)");
-        due("ofPage()", INDEX, thrownBy(() -> x.ofPage(0, 0)));
-        due("carried()", INDEX, thrownBy(() -> x.carried(0, 0)));
+        sentence("Returns what is CARRIED on it; NONE of a TEXT.");
+        TableWright z = justLaidOut();
+        due("of a text", -1, z.carried(0, 0));
+        due("a sum of 0", 0, z.carried(0, 1));
+        due("a sum", 40, z.carried(1, 1));
+        z.number(0, 1, -1);
+        due("a sum of -1 is no NONE", -1, z.carried(0, 1));
+    }
+
+    private static void manyOfWhatIsNotLaidOut() {
+        sentence("2 PAGES (NONE if it is not laid out), 3 0 UPRIGHT, 1 TURNED, NONE if it is not laid out, 4 how wide the table is then (NONE), 5 the HEIGHTS of all ROWS together (NONE), 6 lines of NOTES, 7 NOTES that are not on the PAGE of their ROW (NONE)");
+        TableWright x = justLaidOut();
+        int[][] facts = {{2, 2, 2, 0, 13, 8, 5, 1}, {2, 2, -1, -1, -1, -1, 5, -1}};
+        for (int round = 0; round < 2; round++) {
+            for (int what = 0; what <= 7; what++) {
+                due("many(" + what + ")", facts[round][what], x.many(what));
+            }
+            x.text(0, 0, 71, 0);
+        }
+    }
+
+    private static void writesTellWhatWas() {
+        sentence("how many lines its NOTE has from now on");
+        TableWright x = high7(2, 1);
+        due("notes at first", 0, x.ofPage(0, 2));
+        due("note() of the most", 0, x.note(0, 5));
+        due("it stands at once", 0, x.ofRow(0, 2));
+        due("left behind it", 0, x.ofPage(0, 3));
+        due("the row behind it", 1, x.ofRow(1, 1));
+        due("note() of none", 5, x.note(0, 0));
+        due("none stands at once", 4, x.ofPage(0, 3));
+        sentence("whether it is KEPT with the next one from now on");
+        TableWright y = high7(4, 2, 2);
+        onPages(y, 0, 0, 1);
+        due("keep()", false, y.keep(1, true));
+        onPages(y, 0, 1, 1);
+        due("keep() once more", true, y.keep(1, true));
+        onPages(y, 0, 1, 1);
+        due("keep() no more", true, y.keep(1, false));
+        onPages(y, 0, 0, 1);
+        due("keep() no more, once more", false, y.keep(1, false));
+        sentence("whether it is to SPAN (it does only as long as 1 says)");
+        TableWright z = texts(3, 1);
+        due("span() of the second", true, z.span(0, 1, true));
+        due("span() of the first", true, z.span(0, 0, true));
+        due("the second does not, as it is hidden", 0, z.cell(0, 2, 2));
+        due("span() of the first no more", false, z.span(0, 0, false));
+        due("the second does again", 1, z.cell(0, 2, 2));
     }
 
     private static void meanLeft() {
@@ -1100,6 +1238,9 @@ public final class EdgeTests extends Checks {
         TableWright x = high7(7, 6);
         x.text(1, 0, 80, 0);
         due("without pages any more", 0.0, x.meanLeft());
+        TableWright y = high7(7, 1);
+        y.cut(0);
+        due("of one page, of two that were", 6.0, y.meanLeft());
     }
 
     private static void lastCalls() {
@@ -1159,6 +1300,48 @@ public final class EdgeTests extends Checks {
         due("none now, one then", 1, x.changedBy(0, 1, 0));
         due("none now, two then", 2, x.changedBy(0, 1, 10));
         due("none now, none then", 0, x.changedBy(0, 1, -9998));
+        pagesThatWere();
+        otherRowsOrOtherCarried();
+    }
+
+    private static void pagesThatWere() {
+        // 7 wide, each row has a page; 8 wide, each two rows have one.
+        TableWright x = texts(1, 4);
+        x.column(false, 1);
+        for (int row = 0; row < 4; row++) {
+            x.text(row, 0, row % 2 == 0 ? 21 : 24, 0);
+        }
+        x.number(3, 1, 100);
+        due("four pages", 4, x.paper(10, 10));
+        due("the same four", 0, x.changedBy(3, 1, 100));
+        due("two with other rows, two that are only now", 4, x.changedBy(3, 1, 10));
+        x.number(3, 1, 10);
+        due("two pages", 2, x.many(2));
+        due("two with other rows, two that are only then", 4, x.changedBy(3, 1, 100));
+    }
+
+    private static void otherRowsOrOtherCarried() {
+        sentence("Returns how many PAGES would have other ROWS, or other CARRIED, if that was written");
+        // A number of 3 letters makes the text 6 wide: the second row goes to the second page then.
+        TableWright x = texts(1, 3);
+        x.column(false, 1);
+        x.text(0, 0, 28, 0);
+        x.text(1, 0, 21, 0);
+        x.text(2, 0, 7, 0);
+        x.number(2, 1, 10);
+        due("paper()", 2, x.paper(10, 10));
+        due("other carried on the second alone", 1, x.changedBy(2, 1, 11));
+        due("other rows on the first, the same carried", 2, x.changedBy(2, 1, 100));
+        TableWright full = numbers(4, 30);
+        full.formula(4, 2, 3, 1);
+        full.formula(3, 4, 2, 1);
+        full.number(0, 3, 1);
+        due("paper()", 2, full.paper(18, 18));
+        due("all of 6 columns and 30 rows", 2, full.changedBy(0, 2, 1));
+        due("the last row, of the last page", 1, full.changedBy(29, 0, 1));
+        due("the first row of the last page", 1, full.changedBy(15, 1, -1));
+        due("the last row of the first page", 2, full.changedBy(14, 1, -1));
+        due("pagesWithout() of the last", 2, full.pagesWithout(29));
         // Of a row on the second page the first one has the same rows and the same carried.
         TableWright y = numbers(1, 20);
         y.paper(10, 10);
@@ -1181,11 +1364,32 @@ public final class EdgeTests extends Checks {
         due("pages of 30", 2, y.many(2));
         due("without the last of 30", 1, y.pagesWithout(29));
         due("without the first of 30", 1, y.pagesWithout(0));
-        // A row that is cut keeps none: those beside it can be one group then.
-        TableWright z = kept(".k.k.", 2, 2, 1, 2, 2);
-        due("pages", 2, z.many(2));
-        due("without the one between two groups", 2, z.pagesWithout(2));
-        due("without the first", 1, z.pagesWithout(0));
+        withoutOneOfMany();
+    }
+
+    private static void withoutOneOfMany() {
+        // Without row 2 those beside it are one group, which fits no page, and so is filled as it comes.
+        TableWright z = kept(".k.k..", 1, 2, 1, 3, 3, 2);
+        due("pages", 3, z.many(2));
+        due("without the end of a group", 2, z.pagesWithout(2));
+        due("without the first row of a group", 3, z.pagesWithout(1));
+        // The note of the first waits, and so has a page of its own.
+        TableWright y = noted(rows(6, 1), 5, 0);
+        due("without the one behind it", 2, y.pagesWithout(1));
+        due("without the one that has the note", 1, y.pagesWithout(0));
+        // A word, a number and a formula are each as wide as the paper lets them be.
+        TableWright x = texts(1, 3);
+        x.column(false, 1);
+        x.formula(4, 1, 1, 1);
+        x.text(1, 0, 4, 4);
+        x.number(2, 1, 99);
+        due("4 + 1 + 2 + 1 + 4", -1, x.paper(10, 10));
+        due("without the word", 1, x.pagesWithout(1));
+        due("without the number", 1, x.pagesWithout(2));
+        due("with both", -1, x.pagesWithout(0));
+        due("just wide enough", 1, x.paper(12, 10));
+        due("without one of no width", 1, x.pagesWithout(0));
+        due("changed by a number of 3", 1, x.changedBy(2, 1, 100));
     }
 
     private static void nothingIsChanged() {

@@ -50,6 +50,9 @@ public final class LimitTests extends Checks {
 
     public static void main(String[] args) throws IOException {
         document = documentAt(args[0]);
+        part = "the rules for all calls";
+        due("whether the document says so", true, document.contains("A method that throws an exception changes"
+                + " nothing. If several exceptions apply, the one that is named first is thrown."));
         traceShowsEachChange();
         column();
         formulaOfNoColumn();
